@@ -610,9 +610,7 @@ public final class HornCity {
             if (!isLetter(first)) {
                 return place;
             }
-            if (place + 1 >= length) {
-                return length;
-            }
+            // past the last sign a 0 is read, which fits nowhere: so a text that stops short is told by its length
             if (!isKind(signAt(place + 1))) {
                 return place + 1;
             }
@@ -620,9 +618,6 @@ public final class HornCity {
         }
 
         private int faultOfEnd(int place) {
-            if (place + 2 >= length) {
-                return length;
-            }
             int end = signAt(place + 2);
             boolean fits = kindAt(place) == SIT ? isLetter(end) : end >= '1' && end <= '9';
             return fits ? NONE : place + 2;
@@ -1033,8 +1028,7 @@ public final class HornCity {
         }
 
         int firstOf(int degrees) {
-            wins[0] = false;
-            for (int left = 1; left <= degrees && left < ROUND; left++) {
+            for (int left = 1; left < degrees && left < ROUND; left++) {
                 wins[left] = winningTake(left) != NONE;
             }
             return winningTake(degrees);

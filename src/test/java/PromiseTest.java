@@ -877,6 +877,14 @@ public final class PromiseTest {
         due("26 again", x.restore(1), 1);
         due("26 as it was", x.told(10), 13);
         due("26 CHALKS as they were", x.was(0, 0), 200);
+        x.forget();
+        x.chalk(7, 10);
+        x.image(0);
+        x.forget();
+        x.chalk(3, 20);
+        x.restore(0);
+        // by 3 and 1 he comes to 10 in year 7
+        due("26 CHALKS with their years", x.was(0, 0), 20 * 3 + 1 + 9);
     }
 
     private static void promise27Told() {
