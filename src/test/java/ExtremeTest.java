@@ -41,8 +41,13 @@ public final class ExtremeTest {
 
     private static long print(HornCity city) {
         long print = 17;
-        for (int what = 0; what < 100; what++) {
+        for (int what = 0; what <= 5; what++) {
             print = 31 * print + city.told(what);
+        }
+        for (int one = 0; one <= 8; one++) {
+            for (int part = 0; part <= 2; part++) {
+                print = 31 * print + city.told(10 + 10 * one + part);
+            }
         }
         for (int i = -1; i < 5; i++) {
             print = 31 * print + city.was(2, i);

@@ -4,6 +4,7 @@ import java.util.Random;
 public final class ModelTest {
     private static final int RUNS = 200;
     private static final int CALLS = 512;
+    private static final int LONGEST_STEP = 60;
 
     private final Random random;
     private final int run;
@@ -28,7 +29,7 @@ public final class ModelTest {
         for (int i = 0; i < crowd; i++) {
             one(random.nextInt(9), random.nextInt(180), random.nextInt(19) - 9);
         }
-        while (calls < CALLS) {
+        while (calls < CALLS - LONGEST_STEP) {
             switch (random.nextInt(16)) {
                 case 0, 1 -> people();
                 case 2, 3, 4, 5, 6 -> text();
@@ -40,6 +41,10 @@ public final class ModelTest {
                 case 14 -> book();
                 default -> tellAll();
             }
+        }
+        while (calls < CALLS) {
+            int what = number(0, 99);
+            due("told(" + what + ")", city.told(what), model.told(what));
         }
     }
 

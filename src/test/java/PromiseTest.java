@@ -1,74 +1,77 @@
-/** Each promise by hand: ordinary calls, the edges that the document names, wrong numbers. */
-public final class PromiseTest {
-    private static final int NONE = HornCity.NONE, UNKNOWN = HornCity.UNKNOWN, OUTSIDE = HornCity.OUTSIDE;
-    private static final int STATE = HornCity.STATE, FULL = HornCity.FULL, NO = HornCity.NO;
-    private static final int LEAST = Integer.MIN_VALUE, MOST = Integer.MAX_VALUE;
+/**
+ * Each promise by hand, a test for each of its sentences: ordinary calls, the edges that the sentence
+ * names, wrong numbers. What the terms say of edges is in EdgesOfTermsTest.
+ */
+public final class PromiseTest extends Cities {
+    private static final int[] FAR = {LEAST, LEAST + 1, -1000, 1000, MOST - 1, MOST};
 
     public static void main(String[] args) {
         constants();
-        promise1New();
-        promise2One();
-        promise3Pair();
+        promise1();
+        promise2OneIsThere();
+        promise2Refused();
+        promise3Sit();
+        promise3SitByNone();
+        promise3Unknown();
+        promise3State();
         promise4Horn();
-        promise5Say();
-        promise6Wipe();
+        promise4Refused();
+        promise5Sign();
+        promise5Refused();
+        promise6SignsGo();
         promise7Fault();
-        promise8Judge();
+        promise8Judged();
+        promise8Refused();
         promise9Done();
+        promise9PadIsEmpty();
+        promise9Refused();
         promise10Behind();
         promise10YearsOfTwoWhoSit();
         promise10Chalk();
+        promise10Refused();
         promise11Then();
         promise11Horn();
+        promise11Refused();
         promise12Apart();
+        promise12Unknown();
         promise13Triangles();
+        promise13Refused();
         promise14Bring();
+        promise14Refused();
         promise15Lean();
+        promise15Refused();
         promise16Bisect();
+        promise16Refused();
         promise17Meet();
+        promise17Unknown();
         promise18Chalk();
-        promise19Forget();
+        promise18Refused();
+        promise19ChalksGo();
         promise20Was();
+        promise20None();
+        promise20Refused();
         promise21Ask();
+        promise21NothingFits();
+        promise21Refused();
         promise22Take();
+        promise22Refused();
         promise23Cock();
-        promise23CockRefused();
+        promise23Refused();
         promise24Book();
-        promise25Image();
-        promise26Restore();
+        promise24Refused();
+        promise25Kept();
+        promise25AllButThePad();
+        promise25Refused();
+        promise26Restored();
+        promise26Outside();
+        promise26State();
         promise27Told();
+        promise27Refused();
         Due.finish("PromiseTest");
     }
 
-    private static void due(String call, long got, long want) {
-        Due.due(call, got, want);
-    }
-
-    private static void write(HornCity x, String text) {
-        x.wipe();
-        for (int i = 0; i < text.length(); i++) {
-            x.say(text.charAt(i));
-        }
-    }
-
-    /** A by 10, B by 100 and C by 55, who drift by 2, -1 and 0. */
-    private static HornCity three() {
-        HornCity x = new HornCity();
-        x.one(0, 10, 2);
-        x.one(1, 100, -1);
-        x.one(2, 55, 0);
-        return x;
-    }
-
-    private static HornCity inclined(int... inclines) {
-        HornCity x = new HornCity();
-        for (int i = 0; i < inclines.length; i++) {
-            x.one(i, inclines[i], 0);
-        }
-        return x;
-    }
-
     private static void constants() {
+        sentence("The public face");
         due("NONE", HornCity.NONE, -6);
         due("UNKNOWN", HornCity.UNKNOWN, -1);
         due("OUTSIDE", HornCity.OUTSIDE, -2);
@@ -78,133 +81,228 @@ public final class PromiseTest {
         due("LOST", HornCity.LOST, -1_000_000_000_000_000_000L);
     }
 
-    private static void promise1New() {
+    private static void promise1() {
+        sentence("Promise 1: Nobody.");
         HornCity x = new HornCity();
         for (int what = 0; what <= 5; what++) {
-            due("1 told(" + what + ") of nobody", x.told(what), 0);
+            due("told(" + what + ")", x.told(what), 0);
         }
         for (int one = 0; one <= 8; one++) {
-            due("1 told of ONE " + one, x.told(10 + 10 * one), OUTSIDE);
+            due("told of ONE " + one, x.told(10 + 10 * one), OUTSIDE);
         }
-        due("1 horn", x.horn(0), 0);
-        due("1 fault", x.fault(), NONE);
-        due("1 restore(0)", x.restore(0), STATE);
-        due("1 restore(1)", x.restore(1), STATE);
-        due("1 another is not touched", three().told(1), 7);
-        due("1 nor is this one", x.told(1), 0);
+        due("horn", x.horn(0), 0);
+        due("fault", x.fault(), NONE);
+        due("wipe", x.wipe(), 0);
+        due("forget", x.forget(), 0);
+        due("triangles(0)", x.triangles(0), 0);
+        due("triangles(1)", x.triangles(1), NONE);
+        due("lean(0)", x.lean(0), 0);
+        due("lean(1)", x.lean(1), 0);
+        due("bisect(0)", x.bisect(0), 0);
+        due("bisect(1)", x.bisect(1), 0);
+        due("book", x.book(9999, 99, 0), 0);
+        due("restore(0)", x.restore(0), STATE);
+        due("restore(1)", x.restore(1), STATE);
+        due("told(1) of another object", three().told(1), 7);
+        due("told(1) of this one", x.told(1), 0);
     }
 
-    private static void promise2One() {
+    // ---- 1 people, the horn, years
+
+    private static void promise2OneIsThere() {
+        sentence("Promise 2: A ONE is there (or anew: who sat by him sits by none): how many are.");
         HornCity x = new HornCity();
-        due("2 first", x.one(0, 0, -9), 1);
-        due("2 last", x.one(8, 179, 9), 2);
-        due("2 middle", x.one(4, 90, 0), 3);
-        due("2 anew", x.one(4, 91, 1), 3);
-        due("2 inclined anew", x.told(50), 91);
-        due("2 drifts anew", x.told(51), 10);
-        due("2 drifts -9", x.told(11), 0);
-        due("2 drifts 9", x.told(91), 18);
+        due("first", x.one(0, 0, -9), 1);
+        due("last", x.one(8, 179, 9), 2);
+        due("middle", x.one(4, 90, 0), 3);
+        due("anew", x.one(4, 91, 1), 3);
+        due("inclined anew", x.told(50), 91);
+        due("drifts anew", x.told(51), 10);
+        due("drifts -9", x.told(11), 0);
+        due("drifts 9", x.told(91), 18);
         x.pair(0, 8, true);
-        due("2 anew of one who sits", x.one(8, 5, 5), 3);
-        due("2 who sat by him", x.told(12), NONE);
-        due("2 he himself", x.told(92), NONE);
-        due("2 pairs", x.told(5), 0);
+        due("anew of one who sits", x.one(8, 5, 5), 3);
+        due("who sat by him", x.told(12), NONE);
+        due("he himself", x.told(92), NONE);
+        due("pairs", x.told(5), 0);
         x.pair(0, 8, true);
         x.one(4, 1, 1);
-        due("2 others go on sitting", x.told(5), 1);
-        due("2 -1", x.one(-1, 0, 0), UNKNOWN);
-        due("2 9", x.one(9, 0, 0), UNKNOWN);
-        due("2 least", x.one(LEAST, 0, 0), UNKNOWN);
-        due("2 most", x.one(MOST, 0, 0), UNKNOWN);
-        due("2 UNKNOWN ahead of OUTSIDE", x.one(9, 180, 10), UNKNOWN);
-        due("2 inclined -1", x.one(0, -1, 0), OUTSIDE);
-        due("2 inclined 180", x.one(0, 180, 0), OUTSIDE);
-        due("2 drifts -10", x.one(0, 0, -10), OUTSIDE);
-        due("2 drifts 10", x.one(0, 0, 10), OUTSIDE);
-        due("2 refused changes nothing", x.told(11), 0);
-        due("2 refused parts nobody", x.told(12), 8);
-        due("2 nobody came", x.told(1), 1 + 16 + 256);
+        due("others go on sitting", x.told(5), 1);
+        x.one(0, 1, 1);
+        due("the lesser of both anew", x.told(92), NONE);
+        for (int one = 0; one <= 8; one++) {
+            x.one(one, one, 0);
+        }
+        due("all nine", x.one(8, 8, 0), 9);
     }
 
-    private static void promise3Pair() {
+    private static void promise2Refused() {
+        sentence("Promise 2: UNKNOWN; OUTSIDE.");
+        HornCity x = new HornCity();
+        x.one(0, 5, 5);
+        x.one(8, 5, 5);
+        x.pair(0, 8, true);
+        due("-1", x.one(-1, 0, 0), UNKNOWN);
+        due("9", x.one(9, 0, 0), UNKNOWN);
+        due("inclined -1", x.one(0, -1, 0), OUTSIDE);
+        due("inclined 180", x.one(0, 180, 0), OUTSIDE);
+        due("drifts -10", x.one(0, 0, -10), OUTSIDE);
+        due("drifts 10", x.one(0, 0, 10), OUTSIDE);
+        for (int far : FAR) {
+            due("one " + far, x.one(far, 0, 0), UNKNOWN);
+            due("inclined " + far, x.one(0, far, 0), OUTSIDE);
+            due("drifts " + far, x.one(1, 0, far), OUTSIDE);
+        }
+        due("UNKNOWN ahead of OUTSIDE", x.one(9, 180, 10), UNKNOWN);
+        due("inclined as he was", x.told(10), 5);
+        due("drifts as he did", x.told(11), 14);
+        due("nobody is parted", x.told(12), 8);
+        due("nobody came", x.told(1), 257);
+    }
+
+    private static void promise3Sit() {
+        sentence("Promise 3: Two sit by each other (is true; they sat by none)");
+        HornCity x = inclined(1, 2, 3, 4, 5, 6, 7, 8, 9);
+        due("A and B", x.pair(0, 1, true), 1);
+        due("D and C", x.pair(3, 2, true), 2);
+        due("A by", x.told(12), 1);
+        due("B by", x.told(22), 0);
+        due("C by", x.told(32), 3);
+        due("D by", x.told(42), 2);
+        due("I and E", x.pair(8, 4, true), 3);
+        due("F and G", x.pair(5, 6, true), 4);
+        due("H by none", x.told(82), NONE);
+    }
+
+    private static void promise3SitByNone() {
+        sentence("Promise 3: or not (they sat by each other): how many pairs sit.");
         HornCity x = inclined(1, 2, 3, 4);
-        due("3 A and B", x.pair(0, 1, true), 1);
-        due("3 D and C", x.pair(3, 2, true), 2);
-        due("3 A by", x.told(12), 1);
-        due("3 B by", x.told(22), 0);
-        due("3 C by", x.told(32), 3);
-        due("3 again", x.pair(0, 1, true), STATE);
-        due("3 first sits", x.pair(0, 2, true), STATE);
-        due("3 not these", x.pair(0, 2, false), STATE);
-        due("3 apart, the other way round", x.pair(1, 0, false), 1);
-        due("3 A by none", x.told(12), NONE);
-        due("3 B by none", x.told(22), NONE);
-        due("3 C still", x.told(32), 3);
-        due("3 not again", x.pair(1, 0, false), STATE);
-        due("3 first by none, second sits", x.pair(0, 3, true), STATE);
-        due("3 first sits, second by none", x.pair(3, 0, true), STATE);
-        due("3 both one", x.pair(0, 0, true), UNKNOWN);
-        due("3 both one, not", x.pair(0, 0, false), UNKNOWN);
-        due("3 no first", x.pair(8, 0, true), UNKNOWN);
-        due("3 no second", x.pair(0, 8, false), UNKNOWN);
-        due("3 -1", x.pair(-1, 0, true), UNKNOWN);
-        due("3 NONE", x.pair(0, NONE, false), UNKNOWN);
-        due("3 most", x.pair(MOST, LEAST, true), UNKNOWN);
-        due("3 refused changes nothing", x.told(5), 1);
+        x.pair(0, 1, true);
+        x.pair(2, 3, true);
+        due("A and B, the other way round", x.pair(1, 0, false), 1);
+        due("A by none", x.told(12), NONE);
+        due("B by none", x.told(22), NONE);
+        due("C still by D", x.told(32), 3);
+        due("C and D", x.pair(2, 3, false), 0);
+        due("D by none", x.told(42), NONE);
+        due("B and C then", x.pair(1, 2, true), 1);
+    }
+
+    private static void promise3Unknown() {
+        sentence("Promise 3: UNKNOWN: both there, also one");
+        HornCity x = inclined(1, 2);
+        for (boolean is : new boolean[] {true, false}) {
+            due("both are one, " + is, x.pair(0, 0, is), UNKNOWN);
+            due("no first, " + is, x.pair(8, 0, is), UNKNOWN);
+            due("no second, " + is, x.pair(0, 8, is), UNKNOWN);
+            due("no such first, " + is, x.pair(-1, 0, is), UNKNOWN);
+            due("no such second, " + is, x.pair(0, 9, is), UNKNOWN);
+            due("NONE as second, " + is, x.pair(0, NONE, is), UNKNOWN);
+            due("both one who is not there, " + is, x.pair(5, 5, is), UNKNOWN);
+            for (int far : FAR) {
+                due("first " + far + ", " + is, x.pair(far, 1, is), UNKNOWN);
+                due("second " + far + ", " + is, x.pair(1, far, is), UNKNOWN);
+            }
+        }
+        due("nobody sits", x.told(5), 0);
+    }
+
+    private static void promise3State() {
+        sentence("Promise 3: STATE: as told.");
+        HornCity x = inclined(1, 2, 3, 4);
+        due("by none, not", x.pair(0, 1, false), STATE);
+        x.pair(0, 1, true);
+        due("again", x.pair(0, 1, true), STATE);
+        due("again, the other way round", x.pair(1, 0, true), STATE);
+        due("the first sits", x.pair(0, 2, true), STATE);
+        due("the second sits", x.pair(2, 0, true), STATE);
+        due("one sits, not", x.pair(0, 2, false), STATE);
+        due("the other sits, not", x.pair(2, 1, false), STATE);
+        x.pair(2, 3, true);
+        due("both sit by others", x.pair(0, 2, true), STATE);
+        due("both sit by others, not", x.pair(0, 2, false), STATE);
+        due("pairs", x.told(5), 2);
+        due("A by", x.told(12), 1);
+        due("C by", x.told(32), 3);
+        x.pair(0, 1, false);
+        due("not, again", x.pair(0, 1, false), STATE);
     }
 
     private static void promise4Horn() {
+        sentence("Promise 4: What the HORN reads too much: which it was.");
         HornCity x = new HornCity();
-        due("4 to 9", x.horn(9), 0);
-        due("4 to 3", x.horn(3), 9);
-        due("4 -1", x.horn(-1), OUTSIDE);
-        due("4 10", x.horn(10), OUTSIDE);
-        due("4 refused changes nothing", x.told(2), 3);
-        due("4 to 0", x.horn(0), 3);
-        due("4 now", x.told(2), 0);
+        due("to 9", x.horn(9), 0);
+        due("to 3", x.horn(3), 9);
+        due("to 0", x.horn(0), 3);
+        due("told", x.told(2), 0);
     }
 
-    private static void promise5Say() {
+    private static void promise4Refused() {
+        sentence("Promise 4: OUTSIDE.");
         HornCity x = new HornCity();
-        due("5 32", x.say(32), OUTSIDE);
-        due("5 127", x.say(127), OUTSIDE);
-        due("5 0", x.say(0), OUTSIDE);
-        due("5 -1", x.say(-1), OUTSIDE);
-        due("5 33", x.say(33), 1);
-        due("5 126", x.say(126), 2);
-        for (int signs = 3; signs <= 60; signs++) {
-            due("5 sign " + signs, x.say('.'), signs);
+        x.horn(3);
+        due("-1", x.horn(-1), OUTSIDE);
+        due("10", x.horn(10), OUTSIDE);
+        for (int far : FAR) {
+            due("" + far, x.horn(far), OUTSIDE);
         }
-        due("5 full", x.say('.'), FULL);
-        due("5 OUTSIDE ahead of FULL", x.say(127), OUTSIDE);
-        due("5 signs", x.told(0), 60);
+        due("as it was", x.told(2), 3);
     }
 
-    private static void promise6Wipe() {
+    private static void promise5Sign() {
+        sentence("Promise 5: A sign more: how many.");
+        HornCity x = new HornCity();
+        for (int sign = 33; sign <= 92; sign++) {
+            due("sign " + sign, x.say(sign), sign - 32);
+        }
+        x.wipe();
+        for (int sign = 93; sign <= 126; sign++) {
+            due("sign " + sign, x.say(sign), sign - 92);
+        }
+        due("told", x.told(0), 34);
+    }
+
+    private static void promise5Refused() {
+        sentence("Promise 5: OUTSIDE; FULL.");
+        HornCity x = new HornCity();
+        for (int sign : new int[] {32, 127, 0, -1, 128, 256 + 46, LEAST, MOST}) {
+            due("sign " + sign, x.say(sign), OUTSIDE);
+        }
+        due("none is said", x.told(0), 0);
+        write(x, dots(59));
+        due("sign 60", x.say('.'), 60);
+        due("sign 61", x.say('.'), FULL);
+        due("sign 61, another", x.say('A'), FULL);
+        due("OUTSIDE ahead of FULL", x.say(127), OUTSIDE);
+        due("signs", x.told(0), 60);
+        due("all are years", x.then(1), 60);
+    }
+
+    private static void promise6SignsGo() {
+        sentence("Promise 6: Signs go: how many there were.");
         HornCity x = three();
-        due("6 nothing", x.wipe(), 0);
+        due("nothing", x.wipe(), 0);
         write(x, "A+1.");
-        due("6 four", x.wipe(), 4);
-        due("6 none now", x.told(0), 0);
-        due("6 again", x.wipe(), 0);
-        due("6 no fault", x.fault(), NONE);
-        for (int i = 0; i < 60; i++) {
-            x.say('!');
-        }
-        due("6 sixty", x.wipe(), 60);
-        due("6 from the first sign again", x.say('A'), 1);
-        due("6 nobody went", x.told(1), 7);
+        due("four", x.wipe(), 4);
+        due("none now", x.told(0), 0);
+        due("again", x.wipe(), 0);
+        due("no fault", x.fault(), NONE);
+        write(x, "!".repeat(60));
+        due("sixty", x.wipe(), 60);
+        due("from the first sign again", x.say('A'), 1);
+        due("nobody went", x.told(1), 7);
+        due("nothing is DONE", x.told(10), 10);
     }
 
     private static void fault(String text, int want) {
-        HornCity x = new HornCity();
-        write(x, text);
-        due("7 fault of " + text, x.fault(), want);
-        due("7 again, of " + text, x.fault(), want);
-        due("7 signs of " + text, x.told(0), text.length());
+        HornCity x = write(new HornCity(), text);
+        due("of " + text, x.fault(), want);
+        due("of " + text + ", again", x.fault(), want);
+        due("signs of " + text, x.told(0), text.length());
     }
 
     private static void promise7Fault() {
+        sentence("Promise 7: THE FAULT; NONE.");
         for (String text : new String[] {"", ".", "A+1", "I-9", "A&I", "I&I", "A/", "E:", "I?", "..A+9.B-1A&BC/D:E?."}) {
             fault(text, NONE);
         }
@@ -225,114 +323,107 @@ public final class PromiseTest {
         fault("A+12", 3);
         fault("A:+", 2);
         fault("A/:J+", 2);
-        StringBuilder long60 = new StringBuilder();
-        for (int i = 0; i < 20; i++) {
-            long60.append("C-3");
-        }
-        fault(long60.toString(), NONE);
-        fault(long60.substring(0, 59), 59);
-        fault(long60.substring(0, 59) + "0", 59);
-        fault(long60.substring(0, 58) + "&", 59);
+        String turns = "C-3".repeat(20);
+        fault(turns, NONE);
+        fault(turns.substring(0, 59), 59);
+        fault(turns.substring(0, 59) + "0", 59);
+        fault(turns.substring(0, 58) + "&", 59);
     }
 
-    private static void judged(HornCity x, String text, int act, int why) {
-        write(x, text);
-        due("8 judge(0) of " + text, x.judge(0), act);
-        due("8 judge(1) of " + text, x.judge(1), why);
-        due("8 signs of " + text, x.told(0), text.length());
-    }
+    // ---- 2 years
 
-    private static void promise8Judge() {
+    private static void promise8Judged() {
+        sentence("Promise 8: JUDGED: the ACT (what = 0), why (1); NONE.");
         HornCity x = three();
         judged(x, "", NONE, NONE);
         judged(x, "A+1B-1C:A?.", NONE, NONE);
         judged(x, "D+1", 0, 1);
         judged(x, "A+1I-1", 1, 1);
         judged(x, ".D:", 1, 1);
-        judged(x, "D?", 0, 1);
-        judged(x, "D/", 0, 1);
-        judged(x, "A&D", 0, 1);
-        judged(x, "D&A", 0, 1);
-        judged(x, "D&D", 0, 1);
-        judged(x, "A&A", 0, 2);
         judged(x, "A&BA&A", 1, 2);
         judged(x, "A&BA&D", 1, 1);
         judged(x, "A&BA&C", 1, 3);
         judged(x, "A&BC&A", 1, 3);
-        judged(x, "A&BB&A", 1, 3);
-        judged(x, "A/", 0, 3);
         judged(x, "A&BC/", 1, 3);
         judged(x, "A&BA/B/", 2, 3);
         judged(x, "A&BB/A&C", NONE, NONE);
         judged(x, "....A/D+1", 4, 3);
-        due("8 nothing is DONE", x.told(3), 0);
-        due("8 -1", x.judge(-1), OUTSIDE);
-        due("8 2", x.judge(2), OUTSIDE);
-        write(x, "A/B");
-        due("8 a FAULT, where", x.judge(0), NO);
-        due("8 a FAULT, why", x.judge(1), NO);
-        due("8 OUTSIDE ahead of NO", x.judge(2), OUTSIDE);
+        due("signs stay", x.told(0), 9);
+        due("nothing is DONE", x.told(3), 0);
         x.pair(0, 1, true);
         judged(x, "B/A&C", NONE, NONE);
         judged(x, "A&C", 0, 3);
-        yearLimit();
     }
 
-    /** Past its 512th call nothing is promised; that a year 1000 can not be is seen by more calls alone. */
-    private static void yearLimit() {
+    private static void promise8Refused() {
+        sentence("Promise 8: OUTSIDE; NO: there is a FAULT.");
         HornCity x = three();
-        for (int year = 0; year < 960; year += 60) {
-            write(x, ".".repeat(60));
-            due("8 sixty years", x.done(), 60);
+        due("-1", x.judge(-1), OUTSIDE);
+        due("2", x.judge(2), OUTSIDE);
+        for (int far : FAR) {
+            due("" + far, x.judge(far), OUTSIDE);
         }
-        write(x, ".".repeat(38));
-        x.done();
-        judged(x, ".", NONE, NONE);
-        judged(x, "..A+1", 1, 4);
-        write(x, ".");
-        due("8 to 999", x.done(), 1);
-        due("8 year", x.told(3), 999);
-        judged(x, "A+1.", 1, 4);
-        due("8 the reason is of now", x.judge(0), 1);
+        for (String text : new String[] {"A", "A/B", "!", "D/J", dots(59) + "A"}) {
+            write(x, text);
+            due("where, of " + text, x.judge(0), NO);
+            due("why, of " + text, x.judge(1), NO);
+            due("OUTSIDE ahead of NO, of " + text, x.judge(2), OUTSIDE);
+        }
     }
 
     private static void promise9Done() {
+        sentence("Promise 9: YEARS on the PAD are DONE");
         HornCity x = three();
-        due("9 nothing", x.done(), 0);
-        write(x, "A+5B-5A&B.");
-        due("9 four", x.done(), 4);
-        due("9 empty", x.told(0), 0);
-        due("9 A", x.told(10), 18);
-        due("9 B", x.told(20), 93);
-        due("9 C", x.told(30), 55);
-        due("9 they sit", x.told(12), 1);
-        due("9 year", x.told(3), 1);
-        write(x, "A+1A&C");
-        due("9 an ACT that can not be", x.done(), NO);
-        due("9 nothing changes", x.told(10), 18);
-        due("9 the PAD neither", x.told(0), 6);
-        write(x, "A+1A");
-        due("9 a FAULT", x.done(), NO);
-        due("9 nothing changes then", x.told(10), 18);
-        due("9 signs stay", x.told(0), 4);
-        write(x, "A/..");
-        due("9 three", x.done(), 3);
-        due("9 horn", x.told(2), 1);
-        due("9 by none", x.told(22), NONE);
+        due("four", write(x, "A+5B-5A&B.").done(), 4);
+        due("A", x.told(10), 18);
+        due("B", x.told(20), 93);
+        due("C", x.told(30), 55);
+        due("they sit", x.told(12), 1);
+        due("year", x.told(3), 1);
+        due("three", write(x, "A/..").done(), 3);
+        due("horn", x.told(2), 1);
+        due("by none", x.told(22), NONE);
+        due("sixty", write(x, dots(60)).done(), 60);
+        due("year then", x.told(3), 63);
         x.chalk(0, 10);
-        write(x, "A:A?");
-        due("9 chalk in a text", x.done(), 2);
-        due("9 is none of the CHALKS", x.told(4), 1);
+        due("chalk in a text", write(x, "A:A?").done(), 2);
+        due("is none of the CHALKS", x.told(4), 1);
+    }
+
+    private static void promise9PadIsEmpty() {
+        sentence("Promise 9: (it is empty then)");
+        HornCity x = three();
+        due("nothing", x.done(), 0);
+        due("done", write(x, "A+5.").done(), 2);
+        due("signs", x.told(0), 0);
+        due("fault", x.fault(), NONE);
+        due("done, again", x.done(), 0);
+        due("A, once", x.told(10), 17);
+        due("a sign", x.say('.'), 1);
+    }
+
+    private static void promise9Refused() {
+        sentence("Promise 9: NO: there is a FAULT, or an ACT that can not be.");
+        HornCity x = three();
+        for (String text : new String[] {"A+1A&D", "A+1A&A", "A+1A/", ".D+1", "A+1A", "A+1!", ".A+", dots(59) + "J"}) {
+            due(text, write(x, text).done(), NO);
+            due("signs of " + text, x.told(0), text.length());
+            due("A behind " + text, x.told(10), 10);
+            due("the year behind " + text, x.told(3), 0);
+        }
+        x.wipe();
+        due("an empty PAD then", x.done(), 0);
+        due("and an ACT that can be", write(x, "A+1").done(), 1);
     }
 
     private static void behind(HornCity x, String text, int one, int inclined, int by, int chalked) {
-        write(x, text);
-        due("10 incline of " + one + " behind " + text, x.behind(one, 0), inclined);
-        due("10 by whom of " + one + " behind " + text, x.behind(one, 1), by);
-        due("10 chalk of " + one + " behind " + text, x.behind(one, 2), chalked);
+        inclineBehind(x, text, one, inclined);
+        mateBehind(x, text, one, by);
+        chalkBehind(x, text, one, chalked);
     }
 
     private static void promise10Behind() {
+        sentence("Promise 10: BEHIND: INCLINED (what = 0), by whom (1; NONE), chalked (2; NONE).");
         HornCity x = three();
         behind(x, "", 0, 10, NONE, NONE);
         behind(x, "A+9", 0, 19, NONE, NONE);
@@ -343,52 +434,26 @@ public final class PromiseTest {
         behind(x, ".", 0, 12, NONE, NONE);
         behind(x, ".", 1, 99, NONE, NONE);
         behind(x, "...", 2, 55, NONE, NONE);
-        due("10 nothing is DONE", x.told(10), 10);
-        due("10 not there", x.behind(3, 0), UNKNOWN);
-        due("10 -1", x.behind(-1, 0), UNKNOWN);
-        due("10 9", x.behind(9, 0), UNKNOWN);
-        due("10 UNKNOWN ahead of OUTSIDE", x.behind(3, 3), UNKNOWN);
-        due("10 what -1", x.behind(0, -1), OUTSIDE);
-        due("10 what 3", x.behind(0, 3), OUTSIDE);
-        write(x, "A");
-        due("10 a FAULT", x.behind(0, 0), NO);
-        due("10 UNKNOWN ahead of NO", x.behind(3, 0), UNKNOWN);
-        due("10 OUTSIDE ahead of NO", x.behind(0, 3), OUTSIDE);
-        write(x, "A/");
-        due("10 can not be", x.behind(1, 1), NO);
+        due("nothing is DONE", x.told(10), 10);
     }
 
     private static void promise10YearsOfTwoWhoSit() {
+        sentence("Promise 10: BEHIND: INCLINED (what = 0), by whom (1; NONE)");
         // 90 between them either way: both go by more degrees
         behind(three(), "A&B.", 0, 13, 1, NONE);
         behind(three(), "A&B.", 1, 100, 0, NONE);
         // 45 between them: the one more, the other less
         behind(three(), "A&C.", 0, 13, 2, NONE);
         behind(three(), "A&C.", 2, 54, 0, NONE);
-        // alike: not
-        behind(inclined(7, 7), "A&B.", 0, 7, 1, NONE);
-        // 89 and 91 between them
-        behind(inclined(0, 89), "A&B.", 0, 1, 1, NONE);
-        behind(inclined(0, 89), "A&B.", 1, 88, 0, NONE);
-        behind(inclined(0, 91), "A&B.", 0, 179, 1, NONE);
-        behind(inclined(0, 91), "A&B.", 1, 92, 0, NONE);
-        // over the round's end
-        behind(inclined(179, 0), "A&B.", 0, 0, 1, NONE);
-        behind(inclined(179, 0), "A&B.", 1, 179, 0, NONE);
-        // as they were ahead of the year, not as drifting takes them
-        HornCity x = new HornCity();
-        x.one(0, 10, 9);
-        x.one(1, 12, -9);
-        behind(x, "A&B.", 0, 20, 1, NONE);
-        behind(x, "A&B.", 1, 2, 0, NONE);
-        // by one degree they change places
-        behind(inclined(10, 11), "A&B.", 0, 11, 1, NONE);
-        behind(inclined(10, 11), "A&B.", 1, 10, 0, NONE);
         // a second year sees where the first one left them
         behind(inclined(10, 12), "A&B..", 0, 11, 1, NONE);
+        // who sits by none goes as he DRIFTS
+        behind(three(), "A&C.", 1, 99, NONE, NONE);
+        behind(three(), "A&CA/.", 0, 12, NONE, NONE);
     }
 
     private static void promise10Chalk() {
+        sentence("Promise 10: chalked (2; NONE)");
         HornCity x = three();
         behind(x, "A:", 0, 10, NONE, 10);
         behind(x, "A:", 1, 100, NONE, NONE);
@@ -407,19 +472,40 @@ public final class PromiseTest {
         behind(x, "D:", 3, 171, NONE, 0);
         behind(x, "D?", 3, 171, NONE, 0);
         x.wipe();
-        due("10 chalk is of the text alone", x.behind(0, 2), NONE);
+        due("chalk is of the text alone", x.behind(0, 2), NONE);
+    }
+
+    private static void promise10Refused() {
+        sentence("Promise 10: UNKNOWN: he is not there; OUTSIDE; NO, as of done().");
+        HornCity x = three();
+        due("not there", x.behind(3, 0), UNKNOWN);
+        due("what -1", x.behind(0, -1), OUTSIDE);
+        due("what 3", x.behind(0, 3), OUTSIDE);
+        due("UNKNOWN ahead of OUTSIDE", x.behind(3, 3), UNKNOWN);
+        for (int far : FAR) {
+            due("ONE " + far, x.behind(far, 0), UNKNOWN);
+            due("what " + far, x.behind(0, far), OUTSIDE);
+        }
+        due("ONE 9", x.behind(9, 0), UNKNOWN);
+        for (String text : new String[] {"A", "A+1J", "A/", "A&A", "A+1D:"}) {
+            write(x, text);
+            for (int what = 0; what <= 2; what++) {
+                due("NO of " + text + ", " + what, x.behind(0, what), NO);
+                due("UNKNOWN ahead of NO of " + text, x.behind(3, what), UNKNOWN);
+            }
+            due("OUTSIDE ahead of NO of " + text, x.behind(0, 3), OUTSIDE);
+        }
     }
 
     private static void then(HornCity x, String text, int horn, int year, int pairs, int act, int who) {
-        write(x, text);
-        due("11 horn behind " + text, x.then(0), horn);
-        due("11 year behind " + text, x.then(1), year);
-        due("11 pairs behind " + text, x.then(2), pairs);
-        due("11 act behind " + text, x.then(3), act);
-        due("11 who behind " + text, x.then(4), who);
+        int[] want = {horn, year, pairs, act, who};
+        for (int what = 0; what <= 4; what++) {
+            thenBehind(x, text, what, want[what]);
+        }
     }
 
     private static void promise11Then() {
+        sentence("Promise 11: BEHIND: the HORN (what = 0), the year (1), pairs (2), the ACT (3; NONE), who (4; NONE).");
         HornCity x = three();
         then(x, "", 0, 0, 0, NONE, NONE);
         then(x, "A&B", 0, 0, 1, NONE, NONE);
@@ -436,79 +522,124 @@ public final class PromiseTest {
         x.one(3, 88, 0);
         then(x, "D?D:", 4, 0, 0, 1, 3);
         then(x, "D?", 4, 0, 0, NONE, NONE);
-        due("11 nothing is DONE", x.told(3), 0);
-        due("11 -1", x.then(-1), OUTSIDE);
-        due("11 5", x.then(5), OUTSIDE);
-        write(x, "A&");
-        due("11 a FAULT", x.then(0), NO);
-        due("11 OUTSIDE ahead of NO", x.then(5), OUTSIDE);
-        write(x, "A&A");
-        due("11 can not be", x.then(4), NO);
+        due("nothing is DONE", x.told(3), 0);
     }
 
     private static void promise11Horn() {
+        sentence("Promise 11: BEHIND: the HORN (what = 0), the year (1)");
         HornCity x = three();
         then(x, ".", 0, 1, 0, NONE, NONE);
         then(x, "..", 1, 2, 0, NONE, NONE);
         then(x, "...", 1, 3, 0, NONE, NONE);
         then(x, "....", 2, 4, 0, NONE, NONE);
-        then(x, ".".repeat(17), 8, 17, 0, NONE, NONE);
-        then(x, ".".repeat(18), 9, 18, 0, NONE, NONE);
-        then(x, ".".repeat(20), 9, 20, 0, NONE, NONE);
-        then(x, ".".repeat(60), 9, 60, 0, NONE, NONE);
-        write(x, ".");
-        x.done();
+        then(three(), dots(17), 8, 17, 0, NONE, NONE);
+        then(three(), dots(18), 9, 18, 0, NONE, NONE);
+        then(three(), dots(20), 9, 20, 0, NONE, NONE);
+        then(three(), dots(60), 9, 60, 0, NONE, NONE);
+        write(x, ".").done();
         then(x, ".", 1, 2, 0, NONE, NONE);
         then(x, "..", 1, 3, 0, NONE, NONE);
     }
 
+    private static void promise11Refused() {
+        sentence("Promise 11: OUTSIDE; NO, likewise.");
+        HornCity x = three();
+        due("-1", x.then(-1), OUTSIDE);
+        due("5", x.then(5), OUTSIDE);
+        for (int far : FAR) {
+            due("" + far, x.then(far), OUTSIDE);
+        }
+        for (String text : new String[] {"A&", "A+1J", "A/", "A&A", "A+1D:"}) {
+            write(x, text);
+            for (int what = 0; what <= 4; what++) {
+                due("NO of " + text + ", " + what, x.then(what), NO);
+            }
+            due("OUTSIDE ahead of NO of " + text, x.then(5), OUTSIDE);
+        }
+    }
+
     private static void promise12Apart() {
+        sentence("Promise 12: APART.");
         HornCity x = inclined(0, 90, 91, 179, 45);
-        due("12 90", x.apart(0, 1), 90);
-        due("12 91", x.apart(0, 2), 89);
-        due("12 over the end", x.apart(0, 3), 1);
-        due("12 over the end, back", x.apart(3, 0), 1);
-        due("12 45", x.apart(4, 1), 45);
-        due("12 of one", x.apart(3, 3), 0);
-        due("12 no second", x.apart(0, 5), UNKNOWN);
-        due("12 no first", x.apart(5, 0), UNKNOWN);
-        due("12 -1", x.apart(-1, 9), UNKNOWN);
-        due("12 far out", x.apart(MOST, LEAST), UNKNOWN);
+        due("90", x.apart(0, 1), 90);
+        due("91", x.apart(0, 2), 89);
+        due("over the end", x.apart(0, 3), 1);
+        due("over the end, back", x.apart(3, 0), 1);
+        due("45", x.apart(4, 1), 45);
+        due("of one and himself", x.apart(3, 3), 0);
+        write(x, "A+9");
+        due("as things are now", x.apart(0, 1), 90);
+        x.done();
+        due("and then", x.apart(0, 1), 81);
+    }
+
+    private static void promise12Unknown() {
+        sentence("Promise 12: UNKNOWN: both there.");
+        HornCity x = inclined(0, 90);
+        due("no second", x.apart(0, 2), UNKNOWN);
+        due("no first", x.apart(2, 0), UNKNOWN);
+        due("neither", x.apart(2, 2), UNKNOWN);
+        due("no such second", x.apart(0, 9), UNKNOWN);
+        due("no such first", x.apart(-1, 0), UNKNOWN);
+        for (int far : FAR) {
+            due("first " + far, x.apart(far, 0), UNKNOWN);
+            due("second " + far, x.apart(0, far), UNKNOWN);
+        }
     }
 
     private static void triangles(HornCity x, int count, int first) {
-        due("13 how many", x.triangles(0), count);
-        due("13 the first", x.triangles(1), first);
+        due("how many", x.triangles(0), count);
+        due("the first", x.triangles(1), first);
     }
 
     private static void promise13Triangles() {
+        sentence("Promise 13: TRIANGLES: how many (what = 0), the first (1; NONE).");
         triangles(new HornCity(), 0, NONE);
         triangles(inclined(0, 60), 0, NONE);
         triangles(inclined(0, 20, 40), 1, 7);
         triangles(inclined(0, 19, 40), 0, NONE);
-        triangles(inclined(0, 20, 39), 0, NONE);
         triangles(inclined(160, 0, 20), 1, 7);
         triangles(inclined(161, 0, 20), 0, NONE);
-        triangles(inclined(0, 0, 60, 120), 2, 1 + 4 + 8);
         triangles(inclined(0, 1, 2, 60, 120), 3, 1 + 8 + 16);
         triangles(inclined(0, 20, 40, 60, 80, 100, 120, 140, 160), 84, 7);
-        triangles(inclined(60, 0, 0, 120, 0), 3, 1 + 2 + 8);
         HornCity x = new HornCity();
         x.one(8, 0, 0);
         x.one(7, 60, 0);
         x.one(5, 120, 0);
         triangles(x, 1, 256 + 128 + 32);
-        due("13 -1", x.triangles(-1), OUTSIDE);
-        due("13 2", x.triangles(2), OUTSIDE);
     }
 
+    private static void outsideWhats(String call, int low, int high, WithWhat asked) {
+        due(call + " " + (low - 1), asked.of(low - 1), OUTSIDE);
+        due(call + " " + (high + 1), asked.of(high + 1), OUTSIDE);
+        for (int far : FAR) {
+            due(call + " " + far, asked.of(far), OUTSIDE);
+        }
+        for (int what = low; what <= high; what++) {
+            due(call + " " + what + " is not refused", asked.of(what) == OUTSIDE ? 1 : 0, 0);
+        }
+    }
+
+    private interface WithWhat {
+        long of(int what);
+    }
+
+    private static void promise13Refused() {
+        sentence("Promise 13: OUTSIDE.");
+        outsideWhats("triangles, what", 0, 1, new HornCity()::triangles);
+        outsideWhats("triangles, what", 0, 1, inclined(0, 60, 120)::triangles);
+    }
+
+    // ---- 3 bringing, leaning, halves, meeting
+
     private static void bring(HornCity x, int to, int a, int b, int c, int count, int first) {
-        String call = "14 to " + to + " by " + a + ", " + b + ", " + c;
+        String call = "to " + to + " by " + a + ", " + b + ", " + c;
         due(call + ": how many", x.bring(0, to, a, b, c, 0), count);
         due(call + ": the first", x.bring(0, to, a, b, c, 1), first);
     }
 
     private static void promise14Bring() {
+        sentence("Promise 14: BRING: how many (what = 0), the first (1); NONE.");
         HornCity x = inclined(10, 0);
         bring(x, 10, 1, 2, 3, 0, NONE);
         bring(x, 13, 3, 5, 7, 1, 0);
@@ -521,37 +652,39 @@ public final class PromiseTest {
         bring(x, 12, 3, 5, 7, 2, 1);
         bring(x, 11, 2, 4, 6, NONE, NONE);
         bring(x, 0, 1, 1, 1, 10, 3);
-        bring(x, 100, 90, 1, 1, 1, 0);
         bring(x, 100, 1, 90, 90, 1, 1);
         bring(x, 100, 1, 1, 1, 90, 0);
-        bring(x, 99, 1, 1, 1, 89, 0);
-        bring(x, 101, 1, 1, 1, 89, 3);
         bring(x, 9, 179, 179, 179, 1, 0);
         bring(x, 11, 179, 179, 179, 1, 3);
-        due("14 another", x.bring(1, 2, 1, 5, 9, 0), 2);
-        due("14 nothing is turned", x.told(10), 10);
-        due("14 not there", x.bring(2, 0, 1, 1, 1, 0), UNKNOWN);
-        due("14 9", x.bring(9, 0, 1, 1, 1, 0), UNKNOWN);
-        due("14 UNKNOWN ahead of OUTSIDE", x.bring(-1, 180, 0, 0, 0, 2), UNKNOWN);
-        due("14 to -1", x.bring(0, -1, 1, 1, 1, 0), OUTSIDE);
-        due("14 to 180", x.bring(0, 180, 1, 1, 1, 0), OUTSIDE);
-        due("14 a 0", x.bring(0, 0, 0, 1, 1, 0), OUTSIDE);
-        due("14 b 0", x.bring(0, 0, 1, 0, 1, 0), OUTSIDE);
-        due("14 c 0", x.bring(0, 0, 1, 1, 0, 0), OUTSIDE);
-        due("14 a 180", x.bring(0, 0, 180, 1, 1, 0), OUTSIDE);
-        due("14 b 180", x.bring(0, 0, 1, 180, 1, 0), OUTSIDE);
-        due("14 c 180", x.bring(0, 0, 1, 1, 180, 0), OUTSIDE);
-        due("14 what -1", x.bring(0, 0, 1, 1, 1, -1), OUTSIDE);
-        due("14 what 2", x.bring(0, 0, 1, 1, 1, 2), OUTSIDE);
-        due("14 OUTSIDE though he is so", x.bring(0, 10, 1, 1, 180, 0), OUTSIDE);
+        due("another", x.bring(1, 2, 1, 5, 9, 0), 2);
+        due("nothing is turned", x.told(10), 10);
+        // as things are now, not behind the text
+        write(x, "A+3");
+        bring(x, 13, 3, 5, 7, 1, 0);
+    }
+
+    private static void promise14Refused() {
+        sentence("Promise 14: UNKNOWN: he is not there; OUTSIDE: to 0 to 179, degrees 1 to 179, what.");
+        HornCity x = inclined(10, 0);
+        due("not there", x.bring(2, 0, 1, 1, 1, 0), UNKNOWN);
+        due("9", x.bring(9, 0, 1, 1, 1, 0), UNKNOWN);
+        due("-1", x.bring(-1, 0, 1, 1, 1, 0), UNKNOWN);
+        due("UNKNOWN ahead of OUTSIDE", x.bring(-1, 180, 0, 0, 0, 2), UNKNOWN);
+        outsideWhats("to", 0, 179, to -> x.bring(0, to, 1, 1, 1, 0));
+        outsideWhats("a", 1, 179, a -> inclined(10).bring(0, 0, a, 1, 1, 0));
+        outsideWhats("b", 1, 179, b -> inclined(10).bring(0, 0, 1, b, 1, 1));
+        outsideWhats("c", 1, 179, c -> inclined(10).bring(0, 0, 1, 1, c, 0));
+        outsideWhats("what", 0, 1, what -> inclined(10).bring(0, 0, 1, 1, 1, what));
+        due("OUTSIDE though he is so", x.bring(0, 10, 1, 1, 180, 0), OUTSIDE);
     }
 
     private static void lean(HornCity x, int proposal, int sum) {
-        due("15 p", x.lean(0), proposal);
-        due("15 how much", x.lean(1), sum);
+        due("p", x.lean(0), proposal);
+        due("how much", x.lean(1), sum);
     }
 
     private static void promise15Lean() {
+        sentence("Promise 15: LEAN: p (what = 0), how much (1).");
         lean(new HornCity(), 0, 0);
         lean(inclined(77), 77, 0);
         lean(inclined(10, 20), 10, 10);
@@ -562,16 +695,21 @@ public final class PromiseTest {
         lean(inclined(170, 170, 0, 5), 0, 25);
         lean(inclined(170, 170, 0), 170, 10);
         lean(inclined(179), 179, 0);
-        due("15 -1", new HornCity().lean(-1), OUTSIDE);
-        due("15 2", new HornCity().lean(2), OUTSIDE);
+    }
+
+    private static void promise15Refused() {
+        sentence("Promise 15: OUTSIDE.");
+        outsideWhats("lean, what", 0, 1, new HornCity()::lean);
+        outsideWhats("lean, what", 0, 1, three()::lean);
     }
 
     private static void bisect(HornCity x, int sum, int half) {
-        due("16 how much", x.bisect(0), sum);
-        due("16 the half", x.bisect(1), half);
+        due("how much", x.bisect(0), sum);
+        due("the half", x.bisect(1), half);
     }
 
     private static void promise16Bisect() {
+        sentence("Promise 16: BISECT: how much (what = 0), the half (1; 0: nobody is there).");
         bisect(new HornCity(), 0, 0);
         bisect(inclined(50), 0, 1);
         bisect(inclined(0, 90), 0, 1);
@@ -587,171 +725,249 @@ public final class PromiseTest {
         x.one(3, 0, 0);
         x.one(6, 90, 0);
         bisect(x, 0, 256 + 8);
-        due("16 -1", x.bisect(-1), OUTSIDE);
-        due("16 2", x.bisect(2), OUTSIDE);
+    }
+
+    private static void promise16Refused() {
+        sentence("Promise 16: OUTSIDE.");
+        outsideWhats("bisect, what", 0, 1, new HornCity()::bisect);
+        outsideWhats("bisect, what", 0, 1, three()::bisect);
     }
 
     private static void promise17Meet() {
+        sentence("Promise 17: MEET; NONE.");
         HornCity x = three();
-        due("17 A and B", x.meet(0, 1), 30);
-        due("17 B and A", x.meet(1, 0), 30);
-        due("17 never", x.meet(0, 2), NONE);
-        due("17 B and C", x.meet(1, 2), 45);
-        due("17 with himself", x.meet(0, 0), 0);
+        due("A and B", x.meet(0, 1), 30);
+        due("B and A", x.meet(1, 0), 30);
+        due("never", x.meet(0, 2), NONE);
+        due("B and C", x.meet(1, 2), 45);
+        due("with himself", x.meet(0, 0), 0);
         x.one(3, 11, 2);
-        due("17 drifting alike", x.meet(0, 3), NONE);
+        due("parallel", x.meet(0, 3), NONE);
         x.one(4, 10, -2);
-        due("17 alike now", x.meet(0, 4), 0);
+        due("alike now", x.meet(0, 4), 0);
         x.one(5, 56, -1);
-        due("17 one year", x.meet(2, 5), 1);
+        due("one year", x.meet(2, 5), 1);
         x.one(5, 54, -1);
-        due("17 the long way round", x.meet(2, 5), 179);
+        due("the long way round", x.meet(2, 5), 179);
         x.pair(2, 5, true);
-        due("17 as if alone", x.meet(2, 5), 179);
+        due("as if alone", x.meet(2, 5), 179);
         x.horn(9);
-        due("17 whatever the horn", x.meet(0, 1), 30);
-        due("17 no first", x.meet(8, 0), UNKNOWN);
-        due("17 no second", x.meet(0, 9), UNKNOWN);
-        due("17 -1", x.meet(-1, 0), UNKNOWN);
+        due("whatever the horn", x.meet(0, 1), 30);
+        write(x, dots(10));
+        due("as things are now", x.meet(0, 1), 30);
+        x.done();
+        due("behind ten years", x.meet(0, 1), 20);
     }
+
+    private static void promise17Unknown() {
+        sentence("Promise 17: UNKNOWN: both there.");
+        HornCity x = three();
+        due("no first", x.meet(8, 0), UNKNOWN);
+        due("no second", x.meet(0, 8), UNKNOWN);
+        due("neither", x.meet(8, 8), UNKNOWN);
+        due("no such first", x.meet(-1, 0), UNKNOWN);
+        due("no such second", x.meet(0, 9), UNKNOWN);
+        for (int far : FAR) {
+            due("first " + far, x.meet(far, 0), UNKNOWN);
+            due("second " + far, x.meet(0, far), UNKNOWN);
+        }
+    }
+
+    // ---- 4 chalks, degrees, weathercocks
 
     private static void promise18Chalk() {
+        sentence("Promise 18: A CHALK more: how many.");
         HornCity x = new HornCity();
-        due("18 -1", x.chalk(-1, 0), OUTSIDE);
-        due("18 61", x.chalk(61, 0), OUTSIDE);
-        due("18 c -1", x.chalk(0, -1), OUTSIDE);
-        due("18 c 180", x.chalk(0, 180), OUTSIDE);
-        due("18 none", x.told(4), 0);
-        due("18 first", x.chalk(0, 0), 1);
-        due("18 last year", x.chalk(60, 179), 2);
-        for (int count = 3; count <= 8; count++) {
-            due("18 the same again", x.chalk(60, 179), count);
-        }
-        due("18 full", x.chalk(60, 179), FULL);
-        due("18 OUTSIDE ahead of FULL", x.chalk(61, 179), OUTSIDE);
-        due("18 eight", x.told(4), 8);
+        due("first", x.chalk(0, 0), 1);
+        due("last year", x.chalk(60, 179), 2);
+        due("the same again", x.chalk(60, 179), 3);
+        due("the same year otherwise", x.chalk(60, 178), 4);
+        due("told", x.told(4), 4);
     }
 
-    private static void promise19Forget() {
+    private static void promise18Refused() {
+        sentence("Promise 18: OUTSIDE; FULL.");
         HornCity x = new HornCity();
-        due("19 none", x.forget(), 0);
+        due("-1", x.chalk(-1, 0), OUTSIDE);
+        due("61", x.chalk(61, 0), OUTSIDE);
+        due("c -1", x.chalk(0, -1), OUTSIDE);
+        due("c 180", x.chalk(0, 180), OUTSIDE);
+        for (int far : FAR) {
+            due("year " + far, x.chalk(far, 0), OUTSIDE);
+            due("c " + far, x.chalk(0, far), OUTSIDE);
+        }
+        due("none", x.told(4), 0);
+        for (int count = 1; count <= 8; count++) {
+            due("chalk " + count, x.chalk(60, 179), count);
+        }
+        due("full", x.chalk(60, 179), FULL);
+        due("OUTSIDE ahead of FULL, year", x.chalk(61, 179), OUTSIDE);
+        due("OUTSIDE ahead of FULL, c", x.chalk(60, 180), OUTSIDE);
+        due("eight", x.told(4), 8);
+    }
+
+    private static void promise19ChalksGo() {
+        sentence("Promise 19: CHALKS go: how many there were.");
+        HornCity x = new HornCity();
+        due("none", x.forget(), 0);
         x.chalk(0, 10);
         x.chalk(1, 15);
         x.chalk(2, 15);
-        due("19 nothing fits", x.was(0, -1), 0);
-        due("19 three", x.forget(), 3);
-        due("19 none now", x.told(4), 0);
-        due("19 all fit", x.was(0, -1), 3420);
-        due("19 again", x.forget(), 0);
-        due("19 a first again", x.chalk(0, 1), 1);
+        due("nothing fits", x.was(0, -1), 0);
+        due("three", x.forget(), 3);
+        due("none now", x.told(4), 0);
+        due("all fit", x.was(0, -1), 3420);
+        due("again", x.forget(), 0);
+        due("a first again", x.chalk(0, 1), 1);
+        for (int count = 2; count <= 8; count++) {
+            x.chalk(0, 1);
+        }
+        due("eight", x.forget(), 8);
     }
 
     private static void promise20Was() {
+        sentence("Promise 20: WAS: how many (i = -1), the i-th");
         HornCity x = new HornCity();
-        due("20 all", x.was(0, -1), 3420);
-        due("20 first", x.was(0, 0), 0);
-        due("20 last", x.was(2, 3419), 20 * 179 + 18);
-        due("20 behind the last", x.was(2, 3420), NONE);
-        due("20 -2", x.was(0, -2), NONE);
-        due("20 least", x.was(0, LEAST), NONE);
-        due("20 most", x.was(0, MOST), NONE);
-        due("20 w -1", x.was(-1, -1), OUTSIDE);
-        due("20 w 3", x.was(3, -1), OUTSIDE);
+        due("all", x.was(0, -1), 3420);
+        due("first", x.was(0, 0), 0);
+        due("last", x.was(2, 3419), 20 * 179 + 18);
         x.chalk(0, 10);
-        due("20 of one", x.was(0, -1), 19);
-        due("20 of one, first", x.was(0, 0), 200);
-        due("20 of one, last", x.was(0, 18), 218);
-        due("20 or of its wrong end", x.was(1, -1), 38);
-        due("20 wrong end", x.was(1, 19), 20 * 170);
-        due("20 behind", x.was(1, 38), NONE);
+        due("of one", x.was(0, -1), 19);
+        due("of one, first", x.was(0, 0), 200);
+        due("of one, last", x.was(0, 18), 218);
+        due("or of its wrong end", x.was(1, -1), 38);
+        due("wrong end", x.was(1, 19), 20 * 170);
         x.chalk(1, 12);
-        due("20 of two", x.was(0, -1), 1);
-        due("20 he", x.was(0, 0), 20 * 10 + 2 + 9);
-        due("20 one wrong: 12 to 20 a year and none", x.was(1, -1), 1);
-        due("20 both wrong", x.was(2, -1), 2);
-        due("20 he then", x.was(2, 1), 20 * 170 - 2 + 9);
-        x.forget();
-        // 90 and 0 are so from either end
-        x.chalk(0, 90);
-        due("20 right is right from either end", x.was(2, -1), 19);
-        x.chalk(1, 90);
-        x.chalk(2, 90);
-        due("20 no wrong end is used up", x.was(0, 0), 20 * 90 + 9);
-        x.forget();
-        // three from the wrong end are too many, for him by 10 and 1 as for him by 170 and -1
-        x.chalk(0, 170);
-        x.chalk(1, 169);
-        x.chalk(2, 168);
-        x.chalk(3, 13);
-        x.chalk(4, 14);
-        x.chalk(5, 15);
-        due("20 three wrong ends", x.was(2, -1), 0);
+        due("of two", x.was(0, -1), 1);
+        due("he", x.was(0, 0), 20 * 10 + 2 + 9);
+        due("one wrong: he would drift by more than 9", x.was(1, -1), 1);
+        due("both wrong", x.was(2, -1), 2);
+        due("he then", x.was(2, 1), 20 * 170 - 2 + 9);
         x.forget();
         x.chalk(0, 170);
         x.chalk(1, 11);
         x.chalk(2, 168);
         x.chalk(3, 13);
         x.chalk(4, 14);
-        due("20 two wrong ends", x.was(2, -1), 1);
-        due("20 two wrong ends: he", x.was(2, 0), 20 * 10 + 1 + 9);
-        due("20 one is too few", x.was(1, -1), 0);
-        x.forget();
-        x.chalk(60, 0);
-        due("20 year 60, first", x.was(0, 0), 0);
-        due("20 ONES are not asked", three().was(0, -1), 3420);
+        due("two wrong ends", x.was(2, -1), 1);
+        due("two wrong ends: he", x.was(2, 0), 20 * 10 + 1 + 9);
+        due("one is too few", x.was(1, -1), 0);
+        x.chalk(5, 165);
+        due("three wrong ends are too many", x.was(2, -1), 0);
+        due("ONES are not asked", three().was(0, -1), 3420);
+    }
+
+    private static void promise20None() {
+        sentence("Promise 20: NONE (i below -1, too)");
+        HornCity x = new HornCity();
+        due("behind the last", x.was(2, 3420), NONE);
+        due("-2", x.was(0, -2), NONE);
+        for (int far : FAR) {
+            due("" + far, x.was(0, far), far == 1000 ? 20 * (1000 / 19) + 1000 % 19 : NONE);
+        }
+        x.chalk(0, 10);
+        due("the last of one", x.was(1, 37), 20 * 170 + 18);
+        due("behind it", x.was(1, 38), NONE);
+        due("behind it, w 0", x.was(0, 19), NONE);
+        x.chalk(0, 11);
+        due("nothing fits: how many", x.was(2, -1), 0);
+        due("nothing fits: the first", x.was(2, 0), NONE);
+        due("nothing fits: -2", x.was(2, -2), NONE);
+    }
+
+    private static void promise20Refused() {
+        sentence("Promise 20: OUTSIDE: w.");
+        HornCity x = new HornCity();
+        x.chalk(0, 10);
+        outsideWhats("w", 0, 2, w -> x.was(w, -1));
+        outsideWhats("w, the first", 0, 2, w -> x.was(w, 0));
+        outsideWhats("w, below -1", 0, 2, w -> x.was(w, -2));
+    }
+
+    private static void ask(HornCity x, int year, int many) {
+        due("the year", x.ask(0), year);
+        due("how many", x.ask(1), many);
     }
 
     private static void promise21Ask() {
+        sentence("Promise 21: ASK: the year (what = 0, 0 to 60), how many (1)");
         HornCity x = new HornCity();
-        due("21 none: the year", x.ask(0), 0);
-        due("21 none: how many", x.ask(1), 19);
+        ask(x, 0, 19);
         x.chalk(0, 10);
-        due("21 the year", x.ask(0), 1);
-        due("21 how many", x.ask(1), 1);
+        ask(x, 1, 1);
         x.forget();
-        x.chalk(60, 10);
         // b is 10 less 60 d: in year 0 all whose drifts differ by 3 are alike
-        due("21 year 0 does not part them", x.ask(0), 1);
-        due("21 how many then", x.ask(1), 1);
+        x.chalk(60, 10);
+        ask(x, 1, 1);
         x.forget();
+        // year 0 parts them all
         x.chalk(1, 10);
-        due("21 year 0 parts them", x.ask(0), 0);
+        ask(x, 0, 1);
         x.chalk(2, 12);
-        due("21 one is left", x.ask(1), 1);
-        due("21 any year", x.ask(0), 0);
-        x.chalk(3, 9);
-        due("21 nothing fits", x.ask(0), NONE);
-        due("21 nothing fits, how many", x.ask(1), NONE);
-        due("21 -1", x.ask(-1), OUTSIDE);
-        due("21 2", x.ask(2), OUTSIDE);
+        ask(x, 0, 1);
+    }
+
+    private static void promise21NothingFits() {
+        sentence("Promise 21: NONE: nothing fits.");
+        HornCity x = new HornCity();
+        x.chalk(0, 10);
+        x.chalk(1, 20);
+        ask(x, NONE, NONE);
+        x.forget();
+        x.chalk(0, 10);
+        x.chalk(0, 11);
+        ask(x, NONE, NONE);
+        x.forget();
+        // but for one from the wrong end they would
+        x.chalk(0, 10);
+        x.chalk(0, 170);
+        ask(x, NONE, NONE);
+        due("with one wrong", x.was(1, -1), 38);
+    }
+
+    private static void promise21Refused() {
+        sentence("Promise 21: OUTSIDE.");
+        HornCity x = new HornCity();
+        outsideWhats("ask, what", 0, 1, x::ask);
+        x.chalk(0, 10);
+        x.chalk(0, 11);
+        outsideWhats("ask of nothing, what", 0, 1, x::ask);
     }
 
     private static void promise22Take() {
+        sentence("Promise 22: TAKE: whether (what = 0), how many (1; NONE).");
         HornCity x = new HornCity();
         // 2 leaves 1; 3 and 4 leave 2; 5 leaves 4 or 3; 6 and 7 leave 5; 8 leaves 7, 6 or 4
         int[] first = {NONE, 1, NONE, 1, 2, NONE, 1, 2, NONE};
         for (int n = 0; n < first.length; n++) {
-            due("22 whether, of " + n, x.take(n, 0), first[n] == NONE ? 0 : 1);
-            due("22 how many, of " + n, x.take(n, 1), first[n]);
+            due("whether, of " + n, x.take(n, 0), first[n] == NONE ? 0 : 1);
+            due("how many, of " + n, x.take(n, 1), first[n]);
         }
-        due("22 9 takes 1", x.take(9, 1), 1);
-        due("22 10 takes half", x.take(10, 1), 5);
-        due("22 179", x.take(179, 0), 0);
-        due("22 again, of less", x.take(4, 1), 2);
-        due("22 -1", x.take(-1, 0), OUTSIDE);
-        due("22 180", x.take(180, 0), OUTSIDE);
-        due("22 what -1", x.take(5, -1), OUTSIDE);
-        due("22 what 2", x.take(5, 2), OUTSIDE);
+        due("9 takes 1", x.take(9, 1), 1);
+        due("10 takes half", x.take(10, 1), 5);
+        due("179, whether", x.take(179, 0), 0);
+        due("179, how many", x.take(179, 1), NONE);
+        due("178, whether", x.take(178, 0), 1);
+        due("again, of less", x.take(4, 1), 2);
+    }
+
+    private static void promise22Refused() {
+        sentence("Promise 22: OUTSIDE.");
+        outsideWhats("n", 0, 179, n -> new HornCity().take(n, 0));
+        outsideWhats("n, how many", 0, 179, n -> new HornCity().take(n, 1));
+        outsideWhats("what", 0, 1, what -> new HornCity().take(5, what));
+        outsideWhats("what, of 0", 0, 1, what -> new HornCity().take(0, what));
     }
 
     private static void cock(int m, int p, int a, int b, int n, int q, long upper, long lower) {
         HornCity x = new HornCity();
-        String call = "23 " + m + " " + p + " " + a + " " + b + " " + n + " " + q;
+        String call = m + " " + p + " " + a + " " + b + " " + n + " " + q;
         due(call + " upper", x.cock(m, p, a, b, n, q, 0), upper);
         due(call + " lower", x.cock(m, p, a, b, n, q, 1), lower);
     }
 
     private static void promise23Cock() {
+        sentence("Promise 23: COCK.");
         cock(3, 0, 5, 0, 1, 1, 1, 2);
         cock(3, 0, 5, 0, 1, 0, 1, 2);
         cock(3, 0, 5, 0, 1, 2, 0, 1);
@@ -762,121 +978,157 @@ public final class PromiseTest {
         cock(12, 11, 10, 0, 2, 1, 1, 1);
         cock(12, 0, 0, 10, 3, 9, 1, 1);
         cock(5, 2, 0, 0, 16, 2, 1, 1);
-        // one way of 10 to the 16th
+        // one way of 10 to the 11th
         cock(12, 0, 1, 0, 11, 11, 1, 100_000_000_000L);
         cock(4, 0, 5, 5, 2, 2, 1, 2);
         cock(7, 3, 3, 4, 16, 5, 1406563212078441L, 10_000_000_000_000_000L);
     }
 
-    private static void promise23CockRefused() {
+    private static void promise23Refused() {
+        sentence("Promise 23: OUTSIDE: m, p and q 0 to m less 1, a, b, n, part.");
         HornCity x = new HornCity();
         long lost = -1_000_000_000_000_000_002L;
-        due("23 m 1", x.cock(1, 0, 0, 0, 0, 0, 0), lost);
-        due("23 m 0", x.cock(0, 0, 0, 0, 0, 0, 0), lost);
-        due("23 m least", x.cock(LEAST, 0, 0, 0, 0, 0, 0), lost);
-        due("23 m 13", x.cock(13, 0, 0, 0, 0, 0, 0), lost);
-        due("23 p -1", x.cock(5, -1, 0, 0, 0, 0, 0), lost);
-        due("23 p 5", x.cock(5, 5, 0, 0, 0, 0, 0), lost);
-        due("23 q -1", x.cock(5, 0, 0, 0, 0, -1, 0), lost);
-        due("23 q 5", x.cock(5, 0, 0, 0, 0, 5, 0), lost);
-        due("23 a -1", x.cock(5, 0, -1, 0, 0, 0, 0), lost);
-        due("23 a 11", x.cock(5, 0, 11, 0, 0, 0, 0), lost);
-        due("23 a 11, b -1", x.cock(5, 0, 11, -1, 0, 0, 0), lost);
-        due("23 b -1", x.cock(5, 0, 0, -1, 0, 0, 0), lost);
-        due("23 b 11", x.cock(5, 0, 0, 11, 0, 0, 0), lost);
-        due("23 a and b 11", x.cock(5, 0, 5, 6, 0, 0, 0), lost);
-        due("23 n -1", x.cock(5, 0, 0, 0, -1, 0, 0), lost);
-        due("23 n 17", x.cock(5, 0, 0, 0, 17, 0, 0), lost);
-        due("23 part -1", x.cock(5, 0, 0, 0, 0, 0, -1), lost);
-        due("23 part 2", x.cock(5, 0, 0, 0, 0, 0, 2), lost);
-        due("23 most", x.cock(MOST, MOST, MOST, MOST, MOST, MOST, MOST), lost);
-        due("23 ends", x.cock(12, 11, 0, 10, 16, 0, 1), 1);
-        due("23 and right ones still are", x.cock(12, 11, 0, 10, 11, 0, 0), 1);
+        int[][] outside = {
+            {1, 0, 0, 0, 0, 0, 0}, {0, 0, 0, 0, 0, 0, 0}, {13, 0, 0, 0, 0, 0, 0}, {-2, 0, 0, 0, 0, 0, 0},
+            {5, -1, 0, 0, 0, 0, 0}, {5, 5, 0, 0, 0, 0, 0}, {2, 2, 0, 0, 0, 0, 0}, {12, 12, 0, 0, 0, 0, 0},
+            {5, 0, 0, 0, 0, -1, 0}, {5, 0, 0, 0, 0, 5, 0}, {2, 0, 0, 0, 0, 2, 0}, {12, 0, 0, 0, 0, 12, 0},
+            {5, 0, -1, 0, 0, 0, 0}, {5, 0, 11, 0, 0, 0, 0}, {5, 0, 11, -1, 0, 0, 0}, {5, 0, -1, 11, 0, 0, 0},
+            {5, 0, 0, -1, 0, 0, 0}, {5, 0, 0, 11, 0, 0, 0}, {5, 0, 5, 6, 0, 0, 0}, {5, 0, 10, 1, 0, 0, 0},
+            {5, 0, 1, 10, 0, 0, 0}, {5, 0, 0, 0, -1, 0, 0}, {5, 0, 0, 0, 17, 0, 0},
+            {5, 0, 0, 0, 0, 0, -1}, {5, 0, 0, 0, 0, 0, 2}};
+        for (int[] row : outside) {
+            due(java.util.Arrays.toString(row), x.cock(row[0], row[1], row[2], row[3], row[4], row[5], row[6]), lost);
+        }
+        for (int far : FAR) {
+            for (int place = 0; place < 7; place++) {
+                int[] row = {5, 0, 0, 0, 0, 0, 0};
+                row[place] = far;
+                due(java.util.Arrays.toString(row), x.cock(row[0], row[1], row[2], row[3], row[4], row[5], row[6]), lost);
+            }
+        }
+        due("most, least", x.cock(5, 0, MOST, LEAST, 0, 0, 0), lost);
+        due("the ends", x.cock(12, 11, 0, 10, 16, 0, 1), 1);
+        due("the other ends", x.cock(2, 1, 10, 0, 16, 1, 0), 1);
+        due("five and five", x.cock(2, 0, 5, 5, 16, 0, 0), 1);
     }
 
     private static void promise24Book() {
+        sentence("Promise 24: A YEAR-BOOK: INCLINES (what = 0), pairs (1), TRIANGLES (2).");
         HornCity x = three();
         // 74: C, draw 0, z 1: he turns by 2
-        due("24 one ACT: INCLINES", x.book(0, 1, 0), 167);
-        due("24 one ACT: pairs", x.book(0, 1, 1), 0);
-        due("24 one ACT: TRIANGLES", x.book(0, 1, 2), 1);
-        due("24 of 77", x.book(77, 99, 0), 240);
-        due("24 of 77: pairs", x.book(77, 99, 1), 1);
-        due("24 of 77: TRIANGLES", x.book(77, 99, 2), 0);
-        due("24 nothing is DONE", x.told(10), 10);
-        due("24 nor the year", x.told(3), 0);
-        due("24 again", x.book(77, 99, 0), 240);
-        due("24 last seed", x.book(9999, 99, 1) >= 0 ? 1 : 0, 1);
-        due("24 of nobody", new HornCity().book(9999, 99, 0), 0);
+        due("one ACT: INCLINES", x.book(0, 1, 0), 167);
+        due("one ACT: pairs", x.book(0, 1, 1), 0);
+        due("one ACT: TRIANGLES", x.book(0, 1, 2), 1);
+        due("of 77", x.book(77, 99, 0), 240);
+        due("of 77: pairs", x.book(77, 99, 1), 1);
+        due("of 77: TRIANGLES", x.book(77, 99, 2), 0);
+        due("nothing is DONE", x.told(10), 10);
+        due("nor the year", x.told(3), 0);
+        due("again", x.book(77, 99, 0), 240);
+        due("of nobody", new HornCity().book(9999, 99, 0), 0);
         // seed 1: 149 is F, draw 0, z 2; he is not there
-        due("24 who is not there does not turn", x.book(1, 1, 0), 165);
+        due("who is not there does not turn", x.book(1, 1, 0), 165);
         x.one(5, 0, 0);
-        due("24 who is there does", x.book(1, 1, 0), 165 + 3);
-        due("24 seed -1", x.book(-1, 1, 0), OUTSIDE);
-        due("24 seed 10000", x.book(10000, 1, 0), OUTSIDE);
-        due("24 m 0", x.book(0, 0, 0), OUTSIDE);
-        due("24 m 100", x.book(0, 100, 0), OUTSIDE);
-        due("24 what -1", x.book(0, 1, -1), OUTSIDE);
-        due("24 what 3", x.book(0, 1, 3), OUTSIDE);
+        due("who is there does", x.book(1, 1, 0), 165 + 3);
         write(x, "A+9");
-        due("24 the PAD is not asked", x.book(0, 1, 0), 167);
-        due("24 nor changed", x.told(0), 3);
+        due("the PAD is not asked", x.book(0, 1, 0), 167);
+        due("nor changed", x.told(0), 3);
     }
 
-    private static void promise25Image() {
+    private static void promise24Refused() {
+        sentence("Promise 24: OUTSIDE.");
         HornCity x = three();
-        due("25 -1", x.image(-1), OUTSIDE);
-        due("25 2", x.image(2), OUTSIDE);
-        due("25 refused keeps nothing", x.restore(0), STATE);
-        due("25 first", x.image(0), 1);
+        due("seed -1", x.book(-1, 1, 0), OUTSIDE);
+        due("seed 10000", x.book(10000, 1, 0), OUTSIDE);
+        for (int what = 0; what <= 2; what++) {
+            due("seed 0 is not, " + what, x.book(0, 1, what) >= 0 ? 1 : 0, 1);
+            due("seed 9999 is not, " + what, x.book(9999, 99, what) >= 0 ? 1 : 0, 1);
+        }
+        due("seed LEAST", x.book(LEAST, 1, 0), OUTSIDE);
+        due("seed MOST", x.book(MOST, 1, 0), OUTSIDE);
+        outsideWhats("m", 1, 99, m -> x.book(0, m, 0));
+        outsideWhats("what", 0, 2, what -> x.book(0, 1, what));
+    }
+
+    private static void promise25Kept() {
+        sentence("Promise 25: is kept in an IMAGE (0, 1): 1.");
+        HornCity x = three();
+        due("first", x.image(0), 1);
         x.one(0, 99, 9);
-        due("25 second", x.image(1), 1);
+        due("second", x.image(1), 1);
         x.restore(0);
-        due("25 first is its own", x.told(10), 10);
+        due("first is its own", x.told(10), 10);
         x.restore(1);
-        due("25 second is its own", x.told(10), 99);
-        due("25 anew", x.image(0), 1);
+        due("second is its own", x.told(10), 99);
+        due("anew", x.image(0), 1);
         x.one(0, 1, 1);
         x.restore(0);
-        due("25 the newest is kept", x.told(10), 99);
+        due("the newest is kept", x.told(10), 99);
     }
 
-    private static void promise26Restore() {
+    private static void promise25AllButThePad() {
+        sentence("Promise 25: All but the PAD");
+        HornCity x = write(three(), "A+9");
+        x.image(0);
+        due("signs stay", x.told(0), 3);
+        x.wipe();
+        x.restore(0);
+        due("signs are not brought back", x.told(0), 0);
+        write(x, dots(60));
+        x.image(1);
+        x.restore(0);
+        due("nor taken away", x.told(0), 60);
+        due("they are still told", x.then(1), 60);
+        x.done();
+        due("the year", x.told(3), 60);
+        x.restore(1);
+        due("the year it was", x.told(3), 0);
+        due("DONE as it was", x.told(0), 0);
+    }
+
+    private static void promise25Refused() {
+        sentence("Promise 25: OUTSIDE.");
         HornCity x = three();
-        due("26 -1", x.restore(-1), OUTSIDE);
-        due("26 2", x.restore(2), OUTSIDE);
-        due("26 not kept", x.restore(1), STATE);
+        due("-1", x.image(-1), OUTSIDE);
+        due("2", x.image(2), OUTSIDE);
+        for (int far : FAR) {
+            due("" + far, x.image(far), OUTSIDE);
+        }
+        due("refused keeps nothing", x.restore(0), STATE);
+        due("refused keeps nothing", x.restore(1), STATE);
+    }
+
+    private static void promise26Restored() {
+        sentence("Promise 26: It is as it was when it was kept: 1.");
+        HornCity x = three();
         x.pair(0, 1, true);
         x.horn(5);
         x.chalk(0, 10);
-        write(x, ".");
-        x.done();
+        write(x, ".").done();
         x.image(1);
-        due("26 the other is not kept", x.restore(0), STATE);
         x.one(3, 1, 1);
         x.one(0, 7, 7);
         x.horn(0);
         x.chalk(1, 1);
-        write(x, "..A:");
-        x.done();
+        write(x, "..A:").done();
         write(x, "B+1");
-        due("26 kept", x.restore(1), 1);
-        due("26 ONES", x.told(1), 7);
-        due("26 inclined", x.told(10), 13);
-        due("26 drifts", x.told(11), 11);
-        due("26 by whom", x.told(12), 1);
-        due("26 by whom, back", x.told(22), 0);
-        due("26 the horn", x.told(2), 5);
-        due("26 the year", x.told(3), 1);
-        due("26 the CHALKS", x.told(4), 1);
-        due("26 the CHALKS themselves", x.was(0, 0), 200);
-        due("26 but the PAD", x.told(0), 3);
+        due("kept", x.restore(1), 1);
+        due("ONES", x.told(1), 7);
+        due("inclined", x.told(10), 13);
+        due("drifts", x.told(11), 11);
+        due("by whom", x.told(12), 1);
+        due("by whom, back", x.told(22), 0);
+        due("the horn", x.told(2), 5);
+        due("the year", x.told(3), 1);
+        due("the CHALKS", x.told(4), 1);
+        due("the CHALKS themselves", x.was(0, 0), 200);
+        due("but the PAD", x.told(0), 3);
         x.one(0, 50, 0);
         x.forget();
         x.chalk(0, 20);
-        due("26 again", x.restore(1), 1);
-        due("26 as it was", x.told(10), 13);
-        due("26 CHALKS as they were", x.was(0, 0), 200);
+        due("again", x.restore(1), 1);
+        due("as it was", x.told(10), 13);
+        due("CHALKS as they were", x.was(0, 0), 200);
         x.forget();
         x.chalk(7, 10);
         x.image(0);
@@ -884,33 +1136,113 @@ public final class PromiseTest {
         x.chalk(3, 20);
         x.restore(0);
         // by 3 and 1 he comes to 10 in year 7
-        due("26 CHALKS with their years", x.was(0, 0), 20 * 3 + 1 + 9);
+        due("CHALKS with their years", x.was(0, 0), 20 * 3 + 1 + 9);
+        eightChalksKept();
+        HornCity nobody = new HornCity();
+        nobody.image(0);
+        nobody.one(4, 4, 4);
+        due("nobody", nobody.restore(0), 1);
+        due("nobody is there", nobody.told(1), 0);
     }
 
-    private static void promise27Told() {
+    /** By 10 and 1: all fit, and each is asked as it was kept. */
+    private static void eightChalksKept() {
+        for (int other = 0; other < 8; other++) {
+            HornCity x = new HornCity();
+            for (int year = 0; year < 8; year++) {
+                x.chalk(year, 10 + year + (year == other ? 1 : 0));
+            }
+            x.image(0);
+            x.forget();
+            for (int year = 0; year < 8; year++) {
+                x.chalk(year, 10 + year);
+            }
+            due("eight that fit", x.was(0, -1), 1);
+            x.image(1);
+            x.restore(0);
+            due("eight, " + other + " of them not", x.was(0, -1), 0);
+            x.restore(1);
+            due("eight that fit, brought back", x.was(0, 0), 210);
+        }
+    }
+
+    private static void promise26Outside() {
+        sentence("Promise 26: OUTSIDE");
+        HornCity x = three();
+        x.image(0);
+        x.image(1);
+        due("-1", x.restore(-1), OUTSIDE);
+        due("2", x.restore(2), OUTSIDE);
+        for (int far : FAR) {
+            due("" + far, x.restore(far), OUTSIDE);
+        }
+        due("0", x.restore(0), 1);
+        due("1", x.restore(1), 1);
+    }
+
+    private static void promise26State() {
+        sentence("Promise 26: STATE: it was not.");
+        HornCity x = three();
+        due("0", x.restore(0), STATE);
+        due("1", x.restore(1), STATE);
+        x.image(1);
+        due("0, 1 being kept", x.restore(0), STATE);
+        due("1", x.restore(1), 1);
+        due("0, 1 being brought back", x.restore(0), STATE);
+        HornCity y = three();
+        y.image(0);
+        due("1, 0 being kept", y.restore(1), STATE);
+        due("0", y.restore(0), 1);
+        due("as it was", y.told(1), 7);
+    }
+
+    private static HornCity toTellOf() {
         HornCity x = three();
         x.one(8, 179, -9);
         x.pair(0, 8, true);
         x.horn(7);
         x.chalk(3, 3);
         x.chalk(4, 4);
-        write(x, "A+1.");
-        due("27 signs", x.told(0), 4);
-        due("27 ONES", x.told(1), 7 + 256);
-        due("27 the horn", x.told(2), 7);
-        due("27 the year", x.told(3), 0);
-        due("27 CHALKS", x.told(4), 2);
-        due("27 pairs", x.told(5), 1);
-        due("27 A inclined", x.told(10), 10);
-        due("27 A drifts", x.told(11), 11);
-        due("27 A by", x.told(12), 8);
-        due("27 B by none", x.told(22), NONE);
-        due("27 C drifts", x.told(31), 9);
-        due("27 I inclined", x.told(90), 179);
-        due("27 I drifts", x.told(91), 0);
-        due("27 I by", x.told(92), 0);
-        for (int what : new int[] {-1, 6, 7, 9, 13, 19, 23, 40, 42, 93, 99, 100, 110, -10, LEAST, MOST}) {
-            due("27 told(" + what + ")", x.told(what), OUTSIDE);
+        return write(x, "A+1.");
+    }
+
+    private static void promise27Told() {
+        sentence("Promise 27: 0 signs, 1 ONES (bits), 2 what the HORN reads too much, 3 the year, 4 CHALKS, 5 pairs");
+        HornCity x = toTellOf();
+        int[] told = {4, 7 + 256, 7, 0, 2, 1};
+        for (int what = 0; what <= 5; what++) {
+            due("told(" + what + ")", x.told(what), told[what]);
+        }
+        due("done", x.done(), 2);
+        due("the year", x.told(3), 1);
+        due("signs", x.told(0), 0);
+        sentence("Promise 27: 10 times (1 and a ONE that is there) and 0 INCLINED, 1 DRIFTS and 9, 2 by whom he sits"
+                + " (NONE).");
+        HornCity y = toTellOf();
+        int[][] ones = {{10, 10, 11, 8}, {20, 100, 8, NONE}, {30, 55, 9, NONE}, {90, 179, 0, 0}};
+        for (int[] one : ones) {
+            for (int part = 0; part <= 2; part++) {
+                due("told(" + (one[0] + part) + ")", y.told(one[0] + part), one[1 + part]);
+            }
+        }
+    }
+
+    private static void promise27Refused() {
+        sentence("Promise 27: OUTSIDE.");
+        HornCity x = toTellOf();
+        for (int what = -20; what <= 120; what++) {
+            int one = Math.floorDiv(what, 10) - 1, part = Math.floorMod(what, 10);
+            boolean is = what >= 0 && what <= 5 || (one >= 0 && one <= 2 || one == 8) && part <= 2;
+            if (!is) {
+                due("told(" + what + ")", x.told(what), OUTSIDE);
+            }
+        }
+        for (int far : FAR) {
+            due("told(" + far + ")", x.told(far), OUTSIDE);
+        }
+        HornCity y = new HornCity();
+        for (int what = 6; what <= 99; what++) {
+            due("told(" + what + ") of nobody", y.told(what), OUTSIDE);
         }
     }
 }
